@@ -39,6 +39,14 @@ final class Checks {
         System.out.println(about + ": " + call + " answered " + got + ", due is " + want);
     }
 
+    int asked() {
+        return asked;
+    }
+
+    int wrong() {
+        return wrong;
+    }
+
     void close() {
         System.out.println(about + ": " + asked + " answers, " + wrong + " not as due");
         if (wrong != 0 || asked == 0) {
