@@ -32,7 +32,6 @@ public final class VersionedText {
     private int guardMetric;
     /** Where an insertion goes on with the latest step; NONE when none can. */
     private int typingPlace;
-    private int foundEnd;
 
     public VersionedText(int store) {
         if (store == GAP_STORE) {
@@ -53,7 +52,6 @@ public final class VersionedText {
         search = new Search();
         guardMetric = UNITS;
         typingPlace = NONE;
-        foundEnd = NONE;
     }
 
     public boolean type(char c) {
@@ -196,15 +194,11 @@ public final class VersionedText {
         if (!isVersion(version) || !isPlace(versions[version], from)) {
             return NONE;
         }
-        if (!search.takePattern(clip) || !search.run(versions[version], from)) {
-            return NONE;
-        }
-        foundEnd = search.matchEnd();
-        return search.matchStart();
+        return search.takePattern(clip) ? search.firstMatch(versions[version], from) : NONE;
     }
 
     public int end() {
-        return foundEnd;
+        return search.matchEnd();
     }
 
     private boolean isVersion(int version) {
@@ -592,7 +586,6 @@ public final class VersionedText {
         private final boolean[] starred;
         private final int[] reached;
         private int elements;
-        private int start;
         private int end;
 
         Search() {
@@ -600,7 +593,6 @@ public final class VersionedText {
             starred = new boolean[CLIP_LIMIT];
             reached = new int[CLIP_LIMIT + 1];
             elements = 0;
-            start = NONE;
             end = NONE;
         }
 
@@ -621,8 +613,8 @@ public final class VersionedText {
             return elements > 0;
         }
 
-        boolean run(Text text, int from) {
-            start = NONE;
+        int firstMatch(Text text, int from) {
+            int start = NONE;
             for (int place = text.length(); place >= from; place--) {
                 reachFrom(place, text.at(place));
                 if (reached[0] != NONE) {
@@ -630,13 +622,10 @@ public final class VersionedText {
                     end = reached[0];
                 }
             }
-            return start != NONE;
-        }
-
-        int matchStart() {
             return start;
         }
 
+        /** The end of the latest match: a search that finds none leaves it. */
         int matchEnd() {
             return end;
         }

@@ -35,6 +35,9 @@ public final class ModelTest {
         boolean editing = run / 8 % 2 == 0;
         int begun = CHECKS.asked();
         int wrong = CHECKS.wrong();
+        if (run / 16 % 3 == 0) {
+            fill(x, model, "run " + run + ", at first: ", alphabet);
+        }
         while (CHECKS.asked() - begun < ANSWERS && CHECKS.wrong() == wrong) {
             String name = "run " + run + ", answer " + (CHECKS.asked() - begun) + ": ";
             if (below(100) < (editing ? 75 : 45)) {
@@ -42,6 +45,16 @@ public final class ModelTest {
             } else {
                 ask(x, model, name);
             }
+        }
+    }
+
+    /** Nearly as many units as a text can have, so that its limit comes about. */
+    private static void fill(VersionedText x, Model model, String name, String alphabet) {
+        for (int i = 0; i < 24; i++) {
+            type(x, model, name, alphabet);
+        }
+        for (int i = 0; i < 6; i++) {
+            CHECKS.due(name + "insert(0)", x.insert(0), model.insert(0));
         }
     }
 

@@ -78,7 +78,6 @@ public final class SearchTest {
         due(store, "aab", "a*a*b", 0, 0, 3);
         due(store, "aaaab", "a*ab*a*b", 0, 0, 5);
         due(store, "abcabd", "a.*.*b.", 0, 0, 6);
-        // The longer way of the first star leads to the lesser end: the greatest one counts.
         due(store, "aabab", "a*b*.b", 0, 0, 5);
         due(store, "abbab", "ab*a*b", 0, 0, 5);
     }

@@ -198,6 +198,11 @@ public final class StepsTest {
         CHECKS.due("undo() and redo() break typing", x.steps(0), 3);
         x.insert(2);
         CHECKS.due("but for the step behind them", x.steps(0), 3);
+        VersionedText back = typing(store);
+        back.undo();
+        back.insert(1);
+        CHECKS.due("undo() alone breaks typing", back.steps(0), 2);
+        CHECKS.due("the text", Checks.read(back, 0), ".x.");
         VersionedText guarded = typing(store);
         guarded.guard(0);
         guarded.insert(1);
@@ -211,6 +216,14 @@ public final class StepsTest {
         undone.undo();
         undone.insert(1);
         CHECKS.due("undo() of a later step breaks typing", undone.steps(0), 2);
+        VersionedText cut = typing(store);
+        cut.remove(2, 3);
+        cut.insert(1);
+        CHECKS.due("a removal elsewhere breaks typing", cut.steps(0), 4);
+        VersionedText replaced = typing(store);
+        Checks.replace(replaced, 2, 3, "yy");
+        Checks.insert(replaced, 1, "x");
+        CHECKS.due("a replacement elsewhere breaks typing", replaced.steps(0), 4);
     }
 
     private static void promise9WhatDoesNotBreakTyping(int store) {
