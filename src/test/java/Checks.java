@@ -1,16 +1,23 @@
-/** Counts the answers that are not as due, and makes, fills and reads the objects of the tests. */
+import java.util.List;
+import java.util.function.Consumer;
+import java.util.function.Predicate;
+import java.util.function.Supplier;
+import java.util.function.ToIntFunction;
+
+/** Counts the answers that are not as due, and tells them with the sentence that they break. */
 final class Checks {
-    /** 1 is the one way to store, any other number the other one. */
-    static final int[] STORES = {1, 0, 2, -1, Integer.MIN_VALUE, Integer.MAX_VALUE};
-
-    private static final int CLIP_LIMIT = 24;
-
     private final String about;
+    private String sentence = "";
     private int asked;
     private int wrong;
 
     Checks(String about) {
         this.about = about;
+    }
+
+    /** The words of the document that the answers from now on are due by. */
+    void sentence(String words) {
+        sentence = words;
     }
 
     void due(String call, long got, long want) {
@@ -30,13 +37,54 @@ final class Checks {
     void due(String call, String got, String want) {
         asked++;
         if (!got.equals(want)) {
-            tell(call, shown(got), shown(want));
+            tell(call, Texts.shown(got), Texts.shown(want));
+        }
+    }
+
+    /** The call answers false, and behind it all calls answer as if it had not been made. */
+    void isFalse(String call, Supplier<VersionedText> made, Predicate<VersionedText> asking) {
+        due(call, asking.test(made.get()), false);
+        changesNothing(call, made, asking::test);
+    }
+
+    /** The call answers NONE, and behind it all calls answer as if it had not been made. */
+    void isNone(String call, Supplier<VersionedText> made, ToIntFunction<VersionedText> asking) {
+        due(call, asking.applyAsInt(made.get()), -1);
+        changesNothing(call, made, asking::applyAsInt);
+    }
+
+    void isFalseInEveryState(int store, String call, Predicate<VersionedText> asking) {
+        States.all(store).forEach((state, made) -> isFalse(call + ", " + state, made, asking));
+    }
+
+    void isNoneInEveryState(int store, String call, ToIntFunction<VersionedText> asking) {
+        States.all(store).forEach((state, made) -> isNone(call + ", " + state, made, asking));
+    }
+
+    void changesNothing(String call, Supplier<VersionedText> made,
+            Consumer<VersionedText> asking) {
+        isToldAlike(call + " changes nothing", Texts.then(made, asking), made);
+    }
+
+    /** Whatever is asked of an object that is made the one way, it answers like the other one. */
+    void isToldAlike(String call, Supplier<VersionedText> made, Supplier<VersionedText> like) {
+        asked++;
+        List<String> got = Told.of(made);
+        List<String> want = Told.of(like);
+        for (int line = 0; line < Math.max(got.size(), want.size()); line++) {
+            String gotLine = line < got.size() ? got.get(line) : "nothing";
+            String wantLine = line < want.size() ? want.get(line) : "nothing";
+            if (!gotLine.equals(wantLine)) {
+                tell(call + ", but behind it an object", gotLine, wantLine);
+                return;
+            }
         }
     }
 
     private void tell(String call, String got, String want) {
         wrong++;
-        System.out.println(about + ": " + call + " answered " + got + ", due is " + want);
+        System.out.println(about + ": " + sentence + System.lineSeparator()
+                + "    " + call + " answered " + got + ", due is " + want);
     }
 
     int asked() {
@@ -52,59 +100,5 @@ final class Checks {
         if (wrong != 0 || asked == 0) {
             System.exit(1);
         }
-    }
-
-    /** A new object with this text, made by insertions of full clips; its clip is left empty. */
-    static VersionedText holding(int store, String units) {
-        VersionedText x = new VersionedText(store);
-        for (int at = 0; at < units.length(); at += CLIP_LIMIT) {
-            clip(x, units.substring(at, Math.min(units.length(), at + CLIP_LIMIT)));
-            x.insert(at);
-        }
-        x.scrap();
-        return x;
-    }
-
-    static void clip(VersionedText x, String units) {
-        x.scrap();
-        for (int i = 0; i < units.length(); i++) {
-            x.type(units.charAt(i));
-        }
-    }
-
-    static boolean insert(VersionedText x, int at, String units) {
-        clip(x, units);
-        return x.insert(at);
-    }
-
-    static boolean replace(VersionedText x, int from, int to, String units) {
-        clip(x, units);
-        return x.replace(from, to);
-    }
-
-    static int find(VersionedText x, int version, int from, String pattern) {
-        clip(x, pattern);
-        return x.find(version, from);
-    }
-
-    static String read(VersionedText x, int version) {
-        StringBuilder units = new StringBuilder();
-        int length = x.count(version, 0);
-        for (int i = 0; i < length; i++) {
-            units.append((char) x.unit(version, i));
-        }
-        return units.toString();
-    }
-
-    static String shown(String units) {
-        StringBuilder line = new StringBuilder("\"");
-        for (char unit : units.toCharArray()) {
-            if (unit >= 32 && unit < 127) {
-                line.append(unit);
-            } else {
-                line.append('<').append((int) unit).append('>');
-            }
-        }
-        return line.append('"').toString();
     }
 }

@@ -1,244 +1,203 @@
-/** Promises 15 to 17: count, place and item, in units, points, lines and clusters. */
+/** Promises 15 to 17: count, place and item. Where items begin stands in ItemsTest. */
 public final class MeasureTest {
-    private static final String MARK = "\u0301";
-    private static final String JOINER = "\u200D";
-    private static final String FLAG = "\uD83C\uDDE6";
+    private static final String TEXT = "a" + Texts.FLAG + Texts.FLAG + "\r\nb";
 
     private static final Checks CHECKS = new Checks("MeasureTest");
 
     public static void main(String[] args) {
-        for (int store : Checks.STORES) {
-            emptyText(store);
-            units(store);
-            points(store);
-            lines(store);
-            clusters(store);
-            clustersOfMarks(store);
-            clustersOfPictures(store);
-            clustersOfFlags(store);
-            codesAtTheBounds(store);
-            fullTexts(store);
-            snapshots(store);
-            wrongInputs(store);
+        for (int store : Texts.STORES) {
+            eachVersionIsMeasured(store);
+            countOfNoVersion(store);
+            countOfNoMetric(store);
+            placeOfTheNumberOfItems(store);
+            placeOfNoVersion(store);
+            placeOfNoMetric(store);
+            placeOfNoItem(store);
+            itemInsideOfWhichThePlaceLies(store);
+            itemAtTheEnd(store);
+            itemOfNoVersion(store);
+            itemOfNoMetric(store);
+            itemOfNoPlace(store);
         }
         CHECKS.close();
     }
 
-    /** Asks count, place and item of a metric at every place against where its items begin. */
-    private static void due(int store, int metric, String text, int... beginnings) {
-        VersionedText x = Checks.holding(store, text);
-        dueIn(x, 0, metric, text, beginnings);
-    }
-
-    private static void dueIn(VersionedText x, int version, int metric, String text,
-            int... beginnings) {
-        int number = beginnings.length;
-        int length = text.length();
-        String of = "(" + version + ", " + metric + ") of " + Checks.shown(text) + ": ";
-        CHECKS.due("count" + of, x.count(version, metric), number);
-        for (int k = 0; k < number; k++) {
-            CHECKS.due("place" + of + k, x.place(version, metric, k), beginnings[k]);
-        }
-        CHECKS.due("place" + of + number, x.place(version, metric, number), length);
-        CHECKS.due("place" + of + "past", x.place(version, metric, number + 1), -1);
-        CHECKS.due("place" + of + "-1", x.place(version, metric, -1), -1);
-        int item = -1;
-        for (int place = 0; place <= length; place++) {
-            if (item + 1 < number && beginnings[item + 1] == place) {
-                item++;
-            }
-            int want = place == length && metric != 2 ? number : item;
-            CHECKS.due("item" + of + place, x.item(version, metric, place), want);
-        }
-        CHECKS.due("item" + of + "past", x.item(version, metric, length + 1), -1);
-        CHECKS.due("item" + of + "-1", x.item(version, metric, -1), -1);
-    }
-
-    private static void emptyText(int store) {
-        due(store, 0, "");
-        due(store, 1, "");
-        due(store, 2, "", 0);
-        due(store, 3, "");
-    }
-
-    private static void units(int store) {
-        due(store, 0, "a", 0);
-        due(store, 0, "a\r\n" + FLAG + MARK, 0, 1, 2, 3, 4, 5);
-    }
-
-    private static void points(int store) {
-        due(store, 1, "a" + FLAG + "b", 0, 1, 3);
-        due(store, 1, FLAG + FLAG, 0, 2);
-        due(store, 1, "\uD800\uDC00\uDBFF\uDFFF", 0, 2);
-        due(store, 1, "\uD800\uD800\uDC00\uDC00", 0, 1, 3);
-        due(store, 1, "\uDC00\uD800", 0, 1);
-        due(store, 1, "\uD7FF\uDC00", 0, 1);
-        due(store, 1, "\uDC00\uDC00", 0, 1);
-        due(store, 1, "\uD800\uE000", 0, 1);
-        due(store, 1, "\uD800\uDBFF", 0, 1);
-        due(store, 1, "\r\ne" + MARK, 0, 1, 2, 3);
-    }
-
-    private static void lines(int store) {
-        due(store, 2, "abc", 0);
-        due(store, 2, "a\nb", 0, 2);
-        due(store, 2, "a\rb", 0, 2);
-        due(store, 2, "a\r\nb", 0, 3);
-        due(store, 2, "a\n\rb", 0, 2, 3);
-        due(store, 2, "\n", 0, 1);
-        due(store, 2, "\r", 0, 1);
-        due(store, 2, "\r\n", 0, 2);
-        due(store, 2, "\r\r\n\n", 0, 1, 3, 4);
-        due(store, 2, "\r\n\r\n", 0, 2, 4);
-        due(store, 2, "\u000B\u000C\u0085\u2028", 0);
-        due(store, 2, "ab\n\ncd\n", 0, 3, 4, 7);
-    }
-
-    private static void clusters(int store) {
-        due(store, 3, "abc", 0, 1, 2);
-        due(store, 3, "\r\n", 0);
-        due(store, 3, "\n\r", 0, 1);
-        due(store, 3, "\r\r\n\n", 0, 1, 3);
-        due(store, 3, FLAG + "a", 0, 2);
-        due(store, 3, "\uD83C\uD83C", 0, 1);
-    }
-
-    private static void clustersOfMarks(int store) {
-        due(store, 3, "e" + MARK, 0);
-        due(store, 3, "e" + MARK + MARK + JOINER + MARK + "f", 0, 5);
-        due(store, 3, "e" + JOINER + "f", 0, 2);
-        due(store, 3, MARK, 0);
-        due(store, 3, MARK + MARK + "a", 0, 2);
-        due(store, 3, JOINER + MARK, 0);
-        due(store, 3, "\n" + MARK + MARK, 0, 1);
-        due(store, 3, "\r" + JOINER, 0, 1);
-        due(store, 3, "\r" + MARK + "\n", 0, 1, 2);
-        due(store, 3, "\u0000" + MARK, 0, 1);
-        due(store, 3, "\u001F" + MARK, 0, 1);
-        due(store, 3, " " + MARK, 0);
-        due(store, 3, "\u007F" + JOINER, 0);
-        due(store, 3, FLAG + MARK, 0);
-        due(store, 3, "\uD83C" + MARK, 0);
-        due(store, 3, "a\u0300", 0);
-        due(store, 3, "a\u036F", 0);
-        due(store, 3, "a\u02FF", 0, 1);
-        due(store, 3, "a\u0370", 0, 1);
-        due(store, 3, "a\u200C", 0, 1);
-        due(store, 3, "a\u200E", 0, 1);
-    }
-
-    private static void clustersOfPictures(int store) {
-        String picture = "\uD83D\uDE00";
-        due(store, 3, picture + picture, 0, 2);
-        due(store, 3, picture + JOINER + picture, 0);
-        due(store, 3, picture + JOINER + picture + JOINER + picture + "a", 0, 8);
-        due(store, 3, picture + MARK + JOINER + picture, 0);
-        due(store, 3, picture + MARK + MARK + JOINER + picture, 0);
-        due(store, 3, picture + JOINER + MARK + picture, 0, 4);
-        due(store, 3, picture + JOINER + JOINER + picture, 0, 4);
-        due(store, 3, picture + JOINER + MARK + JOINER + picture, 0, 5);
-        due(store, 3, "a" + JOINER + picture, 0, 2);
-        due(store, 3, "a" + MARK + JOINER + picture, 0, 3);
-        due(store, 3, JOINER + picture, 0, 1);
-        due(store, 3, MARK + JOINER + picture, 0, 2);
-        due(store, 3, picture + "a" + JOINER + picture, 0, 2, 4);
-        due(store, 3, picture + JOINER + "a", 0, 3);
-        due(store, 3, picture + JOINER + FLAG, 0, 3);
-        due(store, 3, FLAG + JOINER + picture, 0, 3);
-        due(store, 3, picture + "\n" + JOINER + picture, 0, 2, 3, 4);
-    }
-
-    private static void clustersOfFlags(int store) {
-        due(store, 3, FLAG, 0);
-        due(store, 3, FLAG + FLAG, 0);
-        due(store, 3, FLAG.repeat(3), 0, 4);
-        due(store, 3, FLAG.repeat(4), 0, 4);
-        due(store, 3, FLAG.repeat(5), 0, 4, 8);
-        due(store, 3, FLAG + "a" + FLAG + FLAG, 0, 2, 3);
-        due(store, 3, FLAG + MARK + FLAG + FLAG, 0, 3);
-        due(store, 3, FLAG + FLAG + MARK + FLAG + FLAG, 0, 5);
-        due(store, 3, FLAG + JOINER + FLAG, 0, 3);
-        due(store, 3, "ab" + FLAG.repeat(3), 0, 1, 2, 6);
-    }
-
-    /** The first and last codes of each kind of point, and those next to them. */
-    private static void codesAtTheBounds(int store) {
-        for (int code : new int[] {127462, 127487}) {
-            due(store, 3, of(code) + of(code), 0);
-        }
-        for (int code : new int[] {127461, 127488}) {
-            due(store, 3, of(code) + of(code), 0, 2);
-            due(store, 3, FLAG + of(code), 0, 2);
-            due(store, 3, of(code) + FLAG + FLAG, 0, 2);
-        }
-        for (int code : new int[] {127744, 129791}) {
-            due(store, 3, of(code) + JOINER + of(code), 0);
-        }
-        for (int code : new int[] {127743, 129792}) {
-            due(store, 3, of(128512) + JOINER + of(code), 0, 3);
-            due(store, 3, of(code) + JOINER + of(128512), 0, 3);
-        }
-    }
-
-    private static String of(int code) {
-        return new String(Character.toChars(code));
-    }
-
-    private static void fullTexts(int store) {
-        int[] all = new int[161];
-        for (int i = 0; i <= 160; i++) {
-            all[i] = i;
-        }
-        due(store, 2, "\n".repeat(160), all);
-        due(store, 2, "\r".repeat(160), all);
-        VersionedText pairs = Checks.holding(store, "\r\n".repeat(80));
-        CHECKS.due("lines of 80 breaks of two units", pairs.count(0, 2), 81);
-        CHECKS.due("clusters of them", pairs.count(0, 3), 80);
-        CHECKS.due("points of them", pairs.count(0, 1), 160);
-        VersionedText flags = Checks.holding(store, FLAG.repeat(80));
-        CHECKS.due("clusters of 80 flags", flags.count(0, 3), 40);
-        CHECKS.due("points of 80 flags", flags.count(0, 1), 80);
-        VersionedText marks = Checks.holding(store, "a" + MARK.repeat(159));
-        CHECKS.due("clusters of 159 marks", marks.count(0, 3), 1);
-        CHECKS.due("item of the last mark", marks.item(0, 3, 159), 0);
-        CHECKS.due("item of the end", marks.item(0, 3, 160), 1);
-    }
-
-    private static void snapshots(int store) {
-        String kept = "a" + FLAG + FLAG + "\r\nb";
-        String text = "a\uD83C" + FLAG + "\r\nb";
-        VersionedText x = Checks.holding(store, kept);
+    private static void eachVersionIsMeasured(int store) {
+        CHECKS.sentence("15: How many items of a metric a version has");
+        VersionedText x = Texts.holding(store, TEXT);
         x.snapshot();
         x.remove(2, 3);
-        dueIn(x, 1, 0, kept, 0, 1, 2, 3, 4, 5, 6, 7);
-        dueIn(x, 1, 1, kept, 0, 1, 3, 5, 6, 7);
-        dueIn(x, 1, 2, kept, 0, 7);
-        dueIn(x, 1, 3, kept, 0, 1, 5, 7);
-        dueIn(x, 0, 1, text, 0, 1, 2, 4, 5, 6);
-        dueIn(x, 0, 3, text, 0, 1, 2, 4, 6);
+        String text = "a\uD83C" + Texts.FLAG + "\r\nb";
+        Measures items = new Measures(CHECKS, store);
+        items.dueIn(x, 1, 0, TEXT, 0, 1, 2, 3, 4, 5, 6, 7);
+        items.dueIn(x, 1, 1, TEXT, 0, 1, 3, 5, 6, 7);
+        items.dueIn(x, 1, 2, TEXT, 0, 7);
+        items.dueIn(x, 1, 3, TEXT, 0, 1, 5, 7);
+        items.dueIn(x, 0, 1, text, 0, 1, 2, 4, 5, 6);
+        items.dueIn(x, 0, 3, text, 0, 1, 2, 4, 6);
+        VersionedText none = new VersionedText(store);
+        CHECKS.due("count(0, 0) of nothing", none.count(0, 0), 0);
+        CHECKS.due("count(0, 1) of nothing", none.count(0, 1), 0);
+        CHECKS.due("count(0, 2) of nothing", none.count(0, 2), 1);
+        CHECKS.due("count(0, 3) of nothing", none.count(0, 3), 0);
     }
 
-    private static void wrongInputs(int store) {
-        VersionedText x = Checks.holding(store, "a\nb");
-        x.snapshot();
-        int[] far = {Integer.MIN_VALUE, Integer.MAX_VALUE};
-        for (int version : new int[] {-1, 2, 3, 4, 5, far[0], far[1]}) {
-            for (int metric = 0; metric <= 3; metric++) {
-                CHECKS.due("count of version " + version, x.count(version, metric), -1);
-                CHECKS.due("place of version " + version, x.place(version, metric, 0), -1);
-                CHECKS.due("item of version " + version, x.item(version, metric, 0), -1);
-            }
-        }
-        for (int metric : new int[] {-1, 4, far[0], far[1]}) {
-            CHECKS.due("count of metric " + metric, x.count(0, metric), -1);
-            CHECKS.due("place of metric " + metric, x.place(0, metric, 0), -1);
-            CHECKS.due("item of metric " + metric, x.item(1, metric, 0), -1);
+    private static void countOfNoVersion(int store) {
+        CHECKS.sentence("15: NONE when there is no such version");
+        for (int version : Texts.beyond(4)) {
+            CHECKS.isNoneInEveryState(store, "count(" + version + ", 0)",
+                    x -> x.count(version, 0));
         }
         for (int metric = 0; metric <= 3; metric++) {
-            for (int past : far) {
-                CHECKS.due("place of item " + past, x.place(0, metric, past), -1);
-                CHECKS.due("item of place " + past, x.item(0, metric, past), -1);
+            int asked = metric;
+            CHECKS.isNone("count(2, " + metric + ") of one that went",
+                    () -> States.typing(store), x -> x.count(2, asked));
+            CHECKS.isNone("count(4, " + metric + ") of none",
+                    () -> States.typing(store), x -> x.count(4, asked));
+        }
+    }
+
+    private static void countOfNoMetric(int store) {
+        CHECKS.sentence("15: NONE when there is no such metric.");
+        for (int metric : Texts.beyond(3)) {
+            CHECKS.isNoneInEveryState(store, "count(0, " + metric + ")",
+                    x -> x.count(0, metric));
+            CHECKS.isNone("count(1, " + metric + ")", () -> States.typing(store),
+                    x -> x.count(1, metric));
+        }
+    }
+
+    private static void placeOfTheNumberOfItems(int store) {
+        CHECKS.sentence("16: the length for k being the number of items.");
+        int[] numbers = {8, 6, 2, 4};
+        for (int metric = 0; metric <= 3; metric++) {
+            VersionedText x = Texts.holding(store, TEXT);
+            int number = numbers[metric];
+            CHECKS.due("place(0, " + metric + ", " + number + ")",
+                    x.place(0, metric, number), 8);
+            CHECKS.due("place(0, " + metric + ", 0)", x.place(0, metric, 0), 0);
+            VersionedText none = new VersionedText(store);
+            CHECKS.due("place(0, " + metric + ", 0) of nothing", none.place(0, metric, 0), 0);
+            CHECKS.due("place(0, " + metric + ", 1) of nothing", none.place(0, metric, 1),
+                    metric == 2 ? 0 : -1);
+            VersionedText full = Texts.holding(store, "\n".repeat(160));
+            CHECKS.due("place(0, " + metric + ", 160) of 160", full.place(0, metric, 160), 160);
+            CHECKS.due("place(0, " + metric + ", 161) of 160", full.place(0, metric, 161),
+                    metric == 2 ? 160 : -1);
+            CHECKS.due("place(0, " + metric + ", 162) of 160", full.place(0, metric, 162), -1);
+        }
+    }
+
+    private static void placeOfNoVersion(int store) {
+        CHECKS.sentence("16: NONE when there is no such version");
+        for (int version : Texts.beyond(4)) {
+            CHECKS.isNoneInEveryState(store, "place(" + version + ", 2, 0)",
+                    x -> x.place(version, 2, 0));
+        }
+        for (int metric = 0; metric <= 3; metric++) {
+            int asked = metric;
+            CHECKS.isNone("place(2, " + metric + ", 0) of one that went",
+                    () -> States.typing(store), x -> x.place(2, asked, 0));
+            CHECKS.isNone("place(4, " + metric + ", 0) of none",
+                    () -> States.typing(store), x -> x.place(4, asked, 0));
+        }
+    }
+
+    private static void placeOfNoMetric(int store) {
+        CHECKS.sentence("16: NONE when there is no such metric");
+        for (int metric : Texts.beyond(3)) {
+            CHECKS.isNoneInEveryState(store, "place(0, " + metric + ", 0)",
+                    x -> x.place(0, metric, 0));
+            CHECKS.isNone("place(1, " + metric + ", 0)", () -> States.typing(store),
+                    x -> x.place(1, metric, 0));
+        }
+    }
+
+    private static void placeOfNoItem(int store) {
+        CHECKS.sentence("16: NONE when there is no such item.");
+        for (int metric = 0; metric <= 3; metric++) {
+            int asked = metric;
+            for (int k : Texts.beyond(161)) {
+                CHECKS.isNoneInEveryState(store, "place(0, " + metric + ", " + k + ")",
+                        x -> x.place(0, asked, k));
             }
+            CHECKS.isNoneInEveryState(store, "place(0, " + metric + ", number + 1)",
+                    x -> x.place(0, asked, x.count(0, asked) + 1));
+            CHECKS.isNone("place(1, " + metric + ", number + 1)", () -> States.typing(store),
+                    x -> x.place(1, asked, x.count(1, asked) + 1));
+        }
+    }
+
+    private static void itemInsideOfWhichThePlaceLies(int store) {
+        CHECKS.sentence("17: the one that begins there, or inside of which it lies");
+        VersionedText x = Texts.holding(store, TEXT);
+        int[][] due = {{0, 1, 2, 3, 4, 5, 6, 7}, {0, 1, 1, 2, 2, 3, 4, 5},
+            {0, 0, 0, 0, 0, 0, 0, 1}, {0, 1, 1, 1, 1, 2, 2, 3}};
+        for (int metric = 0; metric <= 3; metric++) {
+            for (int place = 0; place < 8; place++) {
+                CHECKS.due("item(0, " + metric + ", " + place + ")",
+                        x.item(0, metric, place), due[metric][place]);
+            }
+        }
+    }
+
+    private static void itemAtTheEnd(int store) {
+        CHECKS.sentence("17: at the end of the text the number of items, "
+                + "but for lines the last one.");
+        String[] texts = {"", "a", TEXT, "ab\n", "a\r\n", "\n".repeat(160),
+            Texts.PICTURE.repeat(80)};
+        for (String text : texts) {
+            VersionedText x = Texts.holding(store, text);
+            int length = text.length();
+            for (int metric = 0; metric <= 3; metric++) {
+                int number = x.count(0, metric);
+                CHECKS.due("item(0, " + metric + ", length) of " + Texts.shown(text),
+                        x.item(0, metric, length), metric == 2 ? number - 1 : number);
+            }
+        }
+        VersionedText none = new VersionedText(store);
+        for (int metric = 0; metric <= 3; metric++) {
+            CHECKS.due("item(0, " + metric + ", 0) of nothing", none.item(0, metric, 0), 0);
+        }
+    }
+
+    private static void itemOfNoVersion(int store) {
+        CHECKS.sentence("17: NONE when there is no such version");
+        for (int version : Texts.beyond(4)) {
+            CHECKS.isNoneInEveryState(store, "item(" + version + ", 2, 0)",
+                    x -> x.item(version, 2, 0));
+        }
+        for (int metric = 0; metric <= 3; metric++) {
+            int asked = metric;
+            CHECKS.isNone("item(2, " + metric + ", 0) of one that went",
+                    () -> States.typing(store), x -> x.item(2, asked, 0));
+            CHECKS.isNone("item(4, " + metric + ", 0) of none",
+                    () -> States.typing(store), x -> x.item(4, asked, 0));
+        }
+    }
+
+    private static void itemOfNoMetric(int store) {
+        CHECKS.sentence("17: NONE when there is no such metric");
+        for (int metric : Texts.beyond(3)) {
+            CHECKS.isNoneInEveryState(store, "item(0, " + metric + ", 0)",
+                    x -> x.item(0, metric, 0));
+            CHECKS.isNone("item(1, " + metric + ", 0)", () -> States.typing(store),
+                    x -> x.item(1, metric, 0));
+        }
+    }
+
+    private static void itemOfNoPlace(int store) {
+        CHECKS.sentence("17: NONE when there is no such place.");
+        for (int metric = 0; metric <= 3; metric++) {
+            int asked = metric;
+            for (int place : Texts.beyond(160)) {
+                CHECKS.isNoneInEveryState(store, "item(0, " + metric + ", " + place + ")",
+                        x -> x.item(0, asked, place));
+            }
+            CHECKS.isNoneInEveryState(store, "item(0, " + metric + ", length + 1)",
+                    x -> x.item(0, asked, x.count(0, 0) + 1));
+            CHECKS.isNone("item(1, " + metric + ", 8), a place of the text alone",
+                    () -> States.typing(store), x -> x.item(1, asked, 8));
         }
     }
 }

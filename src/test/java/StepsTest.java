@@ -1,265 +1,259 @@
-/** Promises 7 to 10: undo, redo, steps and seal, and what goes on with a step. */
+/** Promises 7 to 9: undo, redo and steps. What goes on with a step stands in TypingTest. */
 public final class StepsTest {
     private static final Checks CHECKS = new Checks("StepsTest");
 
     public static void main(String[] args) {
-        for (int store : Checks.STORES) {
-            promise7Undo(store);
-            promise7UndoesEightAtMost(store);
-            promise8Redo(store);
-            promise8RedoIsForgotten(store);
-            promise9Steps(store);
-            promise9TypingGoesOn(store);
-            promise9WhatBeginsAStep(store);
-            promise9WhatBreaksTyping(store);
-            promise9WhatDoesNotBreakTyping(store);
-            promise10Seal(store);
+        for (int store : Texts.STORES) {
+            undoGoesBack(store);
+            undoneStepsStayUndone(store);
+            undoWithNoStep(store);
+            onlyEightCanBeUndone(store);
+            forgottenStepsStayForgotten(store);
+            ringOfStepsGoesRound(store);
+            redoGoesForward(store);
+            redoWithNoneUndone(store);
+            stepForgetsUndoneOnes(store);
+            refusedEditForgetsNone(store);
+            stepsAreCounted(store);
+            stepsOfOtherNumbers(store);
         }
         CHECKS.close();
     }
 
-    private static void promise7Undo(int store) {
-        VersionedText x = Checks.holding(store, "abc");
+    /** Three steps of one kind each: "abc", "ac", "XYc"; the clip is XY. */
+    private static VersionedText threeSteps(int store) {
+        VersionedText x = Texts.holding(store, "abc");
         x.remove(1, 2);
-        Checks.replace(x, 0, 1, "XY");
-        CHECKS.due("undo() of replace", x.undo(), true);
-        CHECKS.due("the text", Checks.read(x, 0), "ac");
-        CHECKS.due("undo() of remove", x.undo(), true);
-        CHECKS.due("the text", Checks.read(x, 0), "abc");
-        CHECKS.due("undo() of insert", x.undo(), true);
-        CHECKS.due("the text", Checks.read(x, 0), "");
-        CHECKS.due("undo() of nothing", x.undo(), false);
-        CHECKS.due("the text", Checks.read(x, 0), "");
-        CHECKS.due("the clip is not undone", x.insert(0), true);
-        CHECKS.due("the text", Checks.read(x, 0), "XY");
+        Texts.replace(x, 0, 1, "XY");
+        return x;
     }
 
-    private static void promise7UndoesEightAtMost(int store) {
+    /** As many insertions of two units at the end: "a.", "a.b.", "a.b.c." and so on. */
+    private static VersionedText letters(int store, int steps) {
         VersionedText x = new VersionedText(store);
-        String all = "";
-        for (int i = 0; i < 20; i++) {
-            String units = (char) ('a' + i) + ".";
-            Checks.insert(x, all.length(), units);
-            all += units;
-            CHECKS.due("steps(0) behind " + (i + 1), x.steps(0), Math.min(8, i + 1));
+        for (int i = 0; i < steps; i++) {
+            Texts.insert(x, 2 * i, (char) ('a' + i) + ".");
         }
-        for (int i = 1; i <= 8; i++) {
-            CHECKS.due("undo() " + i, x.undo(), true);
-            CHECKS.due("the text", Checks.read(x, 0), all.substring(0, 40 - 2 * i));
-        }
-        CHECKS.due("undo() 9", x.undo(), false);
-        CHECKS.due("the text", Checks.read(x, 0), all.substring(0, 24));
-        CHECKS.due("steps(0)", x.steps(0), 0);
-        CHECKS.due("steps(1)", x.steps(1), 8);
-        CHECKS.due("a new step", Checks.insert(x, 0, "!!"), true);
-        CHECKS.due("undo() of it", x.undo(), true);
-        CHECKS.due("undo() of what is forgotten", x.undo(), false);
-        CHECKS.due("the text", Checks.read(x, 0), all.substring(0, 24));
+        return x;
     }
 
-    private static void promise8Redo(int store) {
-        VersionedText x = Checks.holding(store, "abc");
-        x.remove(1, 2);
-        Checks.replace(x, 0, 1, "XY");
+    private static String lettersRead(int steps) {
+        return "a.b.c.d.e.f.g.h.i.j.k.l.m.n.o.p.q.r.s.t.".substring(0, 2 * steps);
+    }
+
+    private static void undoGoesBack(int store) {
+        CHECKS.sentence("7: UNDO: the text becomes what it was before the latest step "
+                + "that is not undone");
+        VersionedText x = threeSteps(store);
+        CHECKS.due("undo() of replace", x.undo(), true);
+        CHECKS.due("the text", Texts.read(x, 0), "ac");
+        CHECKS.due("undo() of remove", x.undo(), true);
+        CHECKS.due("the text", Texts.read(x, 0), "abc");
+        CHECKS.due("undo() of insert", x.undo(), true);
+        CHECKS.due("the text", Texts.read(x, 0), "");
+        CHECKS.due("the clip is not undone", x.insert(0), true);
+        CHECKS.due("the text", Texts.read(x, 0), "XY");
+    }
+
+    private static void undoneStepsStayUndone(int store) {
+        CHECKS.sentence("7: the latest step that is not undone");
+        VersionedText x = letters(store, 4);
+        x.undo();
+        x.undo();
+        x.redo();
+        CHECKS.due("undo() of the third", x.undo(), true);
+        CHECKS.due("undo() of the second", x.undo(), true);
+        CHECKS.due("the text", Texts.read(x, 0), lettersRead(1));
+    }
+
+    private static void undoWithNoStep(int store) {
+        CHECKS.sentence("7: False when there is no step that can be undone.");
+        CHECKS.isFalse("undo() of nothing", () -> new VersionedText(store),
+                VersionedText::undo);
+        CHECKS.isFalse("undo() of nothing, with a clip", Texts.made(store, "", "ab"),
+                VersionedText::undo);
+        for (int steps : new int[] {1, 2, 7, 8, 9, 10, 17, 18, 20}) {
+            CHECKS.isFalse("undo() when all are undone of " + steps, () -> {
+                VersionedText x = letters(store, steps);
+                for (int i = 0; i < Math.min(8, steps); i++) {
+                    CHECKS.due("undo() " + i + " of " + steps, x.undo(), true);
+                }
+                return x;
+            }, VersionedText::undo);
+        }
+    }
+
+    private static void onlyEightCanBeUndone(int store) {
+        CHECKS.sentence("Of steps that are not undone only the latest 8 can be undone.");
+        for (int steps : new int[] {7, 8, 9, 10, 16, 17, 18, 19, 20}) {
+            VersionedText x = letters(store, steps);
+            int can = Math.min(8, steps);
+            CHECKS.due("steps(0) of " + steps, x.steps(0), can);
+            for (int i = 1; i <= can; i++) {
+                CHECKS.due("undo() " + i + " of " + steps, x.undo(), true);
+            }
+            CHECKS.due("the text", Texts.read(x, 0), lettersRead(steps - can));
+            CHECKS.due("undo() once more of " + steps, x.undo(), false);
+        }
+    }
+
+    private static void forgottenStepsStayForgotten(int store) {
+        CHECKS.sentence("Of steps that are not undone only the latest 8 can be undone.");
+        VersionedText x = letters(store, 10);
+        for (int i = 0; i < 5; i++) {
+            x.undo();
+        }
+        CHECKS.due("steps(0), five of ten undone", x.steps(0), 3);
+        CHECKS.due("a new step", Texts.insert(x, 0, "!!"), true);
+        CHECKS.due("steps(0) behind it", x.steps(0), 4);
+        for (int i = 0; i < 4; i++) {
+            CHECKS.due("undo() " + i, x.undo(), true);
+        }
+        CHECKS.due("undo() of what is forgotten", x.undo(), false);
+        CHECKS.due("the text", Texts.read(x, 0), lettersRead(2));
+    }
+
+    /** Past any ring of texts, steps go back and forward at every turn of it. */
+    private static void ringOfStepsGoesRound(int store) {
+        CHECKS.sentence("UNDO: what it was before the latest step; REDO: what it was behind it");
+        VersionedText x = letters(store, 1);
+        for (int steps = 2; steps <= 20; steps++) {
+            Texts.insert(x, 2 * steps - 2, (char) ('a' + steps - 1) + ".");
+            CHECKS.due("undo() of " + steps, x.undo(), true);
+            CHECKS.due("the length", x.count(0, 0), 2 * steps - 2);
+            CHECKS.due("redo() of " + steps, x.redo(), true);
+            CHECKS.due("the length", x.count(0, 0), 2 * steps);
+        }
+        CHECKS.isToldAlike("twenty steps, each undone and redone",
+                () -> eachUndoneAndRedone(store, 20), () -> letters(store, 20));
+    }
+
+    private static VersionedText eachUndoneAndRedone(int store, int steps) {
+        VersionedText x = new VersionedText(store);
+        for (int i = 0; i < steps; i++) {
+            Texts.insert(x, 2 * i, (char) ('a' + i) + ".");
+            x.undo();
+            x.redo();
+        }
+        return x;
+    }
+
+    private static void redoGoesForward(int store) {
+        CHECKS.sentence("8: REDO: what it was behind the step undone latest.");
+        VersionedText x = threeSteps(store);
         x.undo();
         x.undo();
         x.undo();
         CHECKS.due("redo() of insert", x.redo(), true);
-        CHECKS.due("the text", Checks.read(x, 0), "abc");
+        CHECKS.due("the text", Texts.read(x, 0), "abc");
         CHECKS.due("redo() of remove", x.redo(), true);
-        CHECKS.due("the text", Checks.read(x, 0), "ac");
+        CHECKS.due("the text", Texts.read(x, 0), "ac");
         CHECKS.due("undo() again", x.undo(), true);
         CHECKS.due("redo() again", x.redo(), true);
+        CHECKS.due("the text", Texts.read(x, 0), "ac");
         CHECKS.due("redo() of replace", x.redo(), true);
-        CHECKS.due("the text", Checks.read(x, 0), "XYc");
-        CHECKS.due("redo() of nothing", x.redo(), false);
-        CHECKS.due("the text", Checks.read(x, 0), "XYc");
+        CHECKS.due("the text", Texts.read(x, 0), "XYc");
+        VersionedText all = letters(store, 20);
+        for (int i = 0; i < 8; i++) {
+            all.undo();
+        }
+        for (int i = 1; i <= 8; i++) {
+            CHECKS.due("redo() " + i + " of eight", all.redo(), true);
+            CHECKS.due("the text", Texts.read(all, 0), lettersRead(12 + i));
+        }
     }
 
-    private static void promise8RedoIsForgotten(int store) {
-        VersionedText x = Checks.holding(store, "abc");
-        x.remove(0, 1);
-        x.undo();
-        CHECKS.due("a refused edit", x.remove(2, 2), false);
-        CHECKS.due("steps(1) behind it", x.steps(1), 1);
-        CHECKS.due("an edit", x.remove(2, 3), true);
-        CHECKS.due("steps(1) behind it", x.steps(1), 0);
-        CHECKS.due("redo()", x.redo(), false);
-        CHECKS.due("the text", Checks.read(x, 0), "ab");
-        VersionedText typed = new VersionedText(store);
-        Checks.insert(typed, 0, "a");
-        Checks.insert(typed, 1, "b");
-        typed.undo();
-        CHECKS.due("typing behind undo()", Checks.insert(typed, 0, "c"), true);
-        CHECKS.due("steps(1) behind it", typed.steps(1), 0);
-        CHECKS.due("going on", typed.insert(1), true);
-        CHECKS.due("undo()", typed.undo(), true);
-        CHECKS.due("redo()", typed.redo(), true);
-        CHECKS.due("the whole step again", Checks.read(typed, 0), "cc");
+    private static void redoWithNoneUndone(int store) {
+        CHECKS.sentence("8: False when no step is undone.");
+        CHECKS.isFalse("redo() of a new object", () -> new VersionedText(store),
+                VersionedText::redo);
+        CHECKS.isFalse("redo() behind steps", () -> threeSteps(store), VersionedText::redo);
+        CHECKS.isFalse("redo() while typing", () -> States.typing(store), VersionedText::redo);
+        CHECKS.isFalse("redo() behind more than eight steps", () -> States.manySteps(store),
+                VersionedText::redo);
+        CHECKS.isFalse("redo() in a full text", () -> States.full(store), VersionedText::redo);
+        CHECKS.isFalse("redo() when all are redone", () -> {
+            VersionedText x = States.allUndone(store);
+            for (int i = 0; i < 8; i++) {
+                CHECKS.due("redo() " + i, x.redo(), true);
+            }
+            return x;
+        }, VersionedText::redo);
+        CHECKS.isFalse("redo() of a refused undo()", () -> {
+            VersionedText x = new VersionedText(store);
+            x.undo();
+            return x;
+        }, VersionedText::redo);
     }
 
-    private static void promise9Steps(int store) {
-        VersionedText x = new VersionedText(store);
-        Checks.insert(x, 0, "ab");
-        Checks.insert(x, 1, "cd");
-        Checks.insert(x, 0, "ef");
+    private static void stepForgetsUndoneOnes(int store) {
+        CHECKS.sentence("A step (not one that goes on with another) "
+                + "makes all undone ones forgotten.");
+        for (int undone = 1; undone <= 8; undone++) {
+            VersionedText x = letters(store, 11);
+            for (int i = 0; i < undone; i++) {
+                x.undo();
+            }
+            CHECKS.due("steps(1)", x.steps(1), undone);
+            CHECKS.due("a step", Texts.insert(x, 0, "!!"), true);
+            CHECKS.due("steps(1) behind it", x.steps(1), 0);
+            CHECKS.due("steps(0) behind it", x.steps(0), 8 - undone + 1);
+            CHECKS.due("redo()", x.redo(), false);
+            CHECKS.due("the text", Texts.read(x, 0), "!!" + lettersRead(11 - undone));
+            CHECKS.due("undo() of the step", x.undo(), true);
+            CHECKS.due("redo() of it", x.redo(), true);
+            CHECKS.due("redo() of a forgotten one", x.redo(), false);
+        }
+        VersionedText removed = threeSteps(store);
+        removed.undo();
+        CHECKS.due("remove(0, 1)", removed.remove(0, 1), true);
+        CHECKS.due("steps(1) behind it", removed.steps(1), 0);
+        VersionedText replaced = threeSteps(store);
+        replaced.undo();
+        CHECKS.due("replace(0, 1)", replaced.replace(0, 1), true);
+        CHECKS.due("steps(1) behind it", replaced.steps(1), 0);
+    }
+
+    private static void refusedEditForgetsNone(int store) {
+        CHECKS.sentence("An edit that is not refused is a step.");
+        VersionedText x = threeSteps(store);
         x.undo();
+        CHECKS.due("insert(9)", x.insert(9), false);
+        CHECKS.due("remove(1, 1)", x.remove(1, 1), false);
+        CHECKS.due("replace(1, 0)", x.replace(1, 0), false);
         CHECKS.due("steps(0)", x.steps(0), 2);
         CHECKS.due("steps(1)", x.steps(1), 1);
-        for (int which : new int[] {-1, 2, Integer.MIN_VALUE, Integer.MAX_VALUE}) {
-            CHECKS.due("steps(" + which + ")", x.steps(which), -1);
-        }
-        x.redo();
-        CHECKS.due("steps(0) behind redo()", x.steps(0), 3);
-        CHECKS.due("steps(1) behind redo()", x.steps(1), 0);
-    }
-
-    private static void promise9TypingGoesOn(int store) {
-        VersionedText x = Checks.holding(store, "..");
-        for (int i = 0; i < 30; i++) {
-            Checks.insert(x, 1 + i, "" + (char) ('a' + i % 26));
-        }
-        CHECKS.due("thirty insertions are one step", x.steps(0), 2);
-        CHECKS.due("undo() of all", x.undo(), true);
-        CHECKS.due("the text", Checks.read(x, 0), "..");
-        CHECKS.due("redo() of all", x.redo(), true);
-        CHECKS.due("the text", Checks.read(x, 0), ".abcdefghijklmnopqrstuvwxyzabcd.");
-        VersionedText full = Checks.holding(store, "s".repeat(158));
-        int before = full.steps(0);
-        CHECKS.due("the 159th", Checks.insert(full, 3, "x"), true);
-        CHECKS.due("the 160th", full.insert(4), true);
-        CHECKS.due("one too many", full.insert(5), false);
-        CHECKS.due("one step more", full.steps(0), before + 1);
-        VersionedText long8 = new VersionedText(store);
-        for (int i = 0; i < 9; i++) {
-            Checks.insert(long8, 0, "zz");
-        }
-        Checks.insert(long8, 0, "x");
-        long8.insert(1);
-        CHECKS.due("going on with the ninth forgets none", long8.steps(0), 8);
-        for (int i = 0; i < 8; i++) {
-            long8.undo();
-        }
-        CHECKS.due("the text before the latest eight", Checks.read(long8, 0), "zzzz");
-    }
-
-    /** Types an x at place 0, then makes the edit that each row tells of, and counts the steps. */
-    private static void promise9WhatBeginsAStep(int store) {
-        CHECKS.due("typing before what was typed", stepsBehind(store, 0, "y"), 2);
-        CHECKS.due("typing behind what was typed", stepsBehind(store, 1, "y"), 1);
-        CHECKS.due("a clip of two units", stepsBehind(store, 1, "yz"), 2);
-        CHECKS.due("a 10", stepsBehind(store, 1, "\n"), 2);
-        CHECKS.due("a 13", stepsBehind(store, 1, "\r"), 2);
-        CHECKS.due("a half of a point", stepsBehind(store, 1, "\uDE00"), 1);
-        for (String first : new String[] {"\n", "\r", "ab"}) {
-            VersionedText x = new VersionedText(store);
-            Checks.insert(x, 0, first);
-            Checks.insert(x, first.length(), "y");
-            CHECKS.due("the step before is no typing", x.steps(0), 2);
-            Checks.insert(x, first.length() + 1, "y");
-            CHECKS.due("the one behind it is", x.steps(0), 2);
-        }
-        VersionedText x = new VersionedText(store);
-        Checks.insert(x, 0, "x");
-        CHECKS.due("replace(1, 1) by one unit", Checks.replace(x, 1, 1, "y"), true);
-        CHECKS.due("never goes on", x.steps(0), 2);
-        CHECKS.due("insert(2) behind it", x.insert(2), true);
-        CHECKS.due("a replacement is no insertion to go on with", x.steps(0), 3);
-        VersionedText removed = new VersionedText(store);
-        Checks.insert(removed, 0, "x");
-        removed.insert(1);
-        removed.remove(1, 2);
-        removed.insert(1);
-        CHECKS.due("the step before is a removal", removed.steps(0), 3);
-        removed.insert(0);
-        CHECKS.due("at another place", removed.steps(0), 4);
-        removed.insert(3);
-        CHECKS.due("at the end of the text, not of what was typed", removed.steps(0), 5);
-    }
-
-    private static int stepsBehind(int store, int at, String units) {
-        VersionedText x = new VersionedText(store);
-        Checks.insert(x, 0, "x");
-        Checks.insert(x, at, units);
-        return x.steps(0);
-    }
-
-    private static VersionedText typing(int store) {
-        VersionedText x = Checks.holding(store, "..");
-        Checks.insert(x, 0, "x");
-        return x;
-    }
-
-    private static void promise9WhatBreaksTyping(int store) {
-        VersionedText x = typing(store);
-        x.undo();
-        x.redo();
-        x.insert(1);
-        CHECKS.due("undo() and redo() break typing", x.steps(0), 3);
-        x.insert(2);
-        CHECKS.due("but for the step behind them", x.steps(0), 3);
-        VersionedText back = typing(store);
-        back.undo();
-        back.insert(1);
-        CHECKS.due("undo() alone breaks typing", back.steps(0), 2);
-        CHECKS.due("the text", Checks.read(back, 0), ".x.");
-        VersionedText guarded = typing(store);
-        guarded.guard(0);
-        guarded.insert(1);
-        CHECKS.due("guard(0) breaks typing, though it is 0 already", guarded.steps(0), 3);
-        guarded.insert(2);
-        CHECKS.due("but for the step behind it", guarded.steps(0), 3);
-        VersionedText undone = new VersionedText(store);
-        Checks.insert(undone, 0, "a");
-        undone.seal();
-        undone.insert(1);
-        undone.undo();
-        undone.insert(1);
-        CHECKS.due("undo() of a later step breaks typing", undone.steps(0), 2);
-        VersionedText cut = typing(store);
-        cut.remove(2, 3);
-        cut.insert(1);
-        CHECKS.due("a removal elsewhere breaks typing", cut.steps(0), 4);
-        VersionedText replaced = typing(store);
-        Checks.replace(replaced, 2, 3, "yy");
-        Checks.insert(replaced, 1, "x");
-        CHECKS.due("a replacement elsewhere breaks typing", replaced.steps(0), 4);
-    }
-
-    private static void promise9WhatDoesNotBreakTyping(int store) {
-        VersionedText x = typing(store);
-        CHECKS.due("redo() is refused", x.redo(), false);
-        CHECKS.due("guard(2) is refused", x.guard(2), false);
-        CHECKS.due("insert(9) is refused", x.insert(9), false);
-        CHECKS.due("remove(1, 1) is refused", x.remove(1, 1), false);
-        CHECKS.due("replace(2, 1) is refused", x.replace(2, 1), false);
-        CHECKS.due("steps(0)", x.steps(0), 2);
-        CHECKS.due("snapshot()", x.snapshot(), 1);
-        CHECKS.due("find(0, 0)", x.find(0, 0), 0);
-        CHECKS.due("release(1)", x.release(1), true);
-        CHECKS.due("another unit", Checks.insert(x, 1, "y"), true);
-        CHECKS.due("still the same step", x.steps(0), 2);
-        CHECKS.due("undo()", x.undo(), true);
-        CHECKS.due("the text", Checks.read(x, 0), "..");
-    }
-
-    private static void promise10Seal(int store) {
-        VersionedText x = typing(store);
-        x.seal();
-        CHECKS.due("a refused insertion", x.insert(-1), false);
-        x.insert(1);
-        CHECKS.due("seal() makes the next insertion a step", x.steps(0), 3);
-        x.insert(2);
-        CHECKS.due("and not the one behind it", x.steps(0), 3);
-        x.seal();
-        x.seal();
-        CHECKS.due("seal() changes no steps", x.steps(0), 3);
-        CHECKS.due("seal() changes no text", Checks.read(x, 0), "xxx..");
-        x.undo();
-        CHECKS.due("undo() to the seal", Checks.read(x, 0), "x..");
-        x.seal();
-        CHECKS.due("seal() leaves what is undone", x.steps(1), 1);
         CHECKS.due("redo()", x.redo(), true);
-        CHECKS.due("the text", Checks.read(x, 0), "xxx..");
+        CHECKS.due("the text", Texts.read(x, 0), "XYc");
+    }
+
+    private static void stepsAreCounted(int store) {
+        CHECKS.sentence("9: How many steps can be undone (which 0) or redone (which 1)");
+        VersionedText none = new VersionedText(store);
+        CHECKS.due("steps(0) of a new object", none.steps(0), 0);
+        CHECKS.due("steps(1) of a new object", none.steps(1), 0);
+        VersionedText x = new VersionedText(store);
+        for (int i = 1; i <= 20; i++) {
+            Texts.insert(x, 0, "ab");
+            CHECKS.due("steps(0) behind step " + i, x.steps(0), Math.min(8, i));
+            CHECKS.due("steps(1) behind step " + i, x.steps(1), 0);
+        }
+        for (int i = 1; i <= 8; i++) {
+            x.undo();
+            CHECKS.due("steps(0) behind undo() " + i, x.steps(0), 8 - i);
+            CHECKS.due("steps(1) behind undo() " + i, x.steps(1), i);
+        }
+        for (int i = 1; i <= 8; i++) {
+            x.redo();
+            CHECKS.due("steps(0) behind redo() " + i, x.steps(0), i);
+            CHECKS.due("steps(1) behind redo() " + i, x.steps(1), 8 - i);
+        }
+    }
+
+    private static void stepsOfOtherNumbers(int store) {
+        CHECKS.sentence("9: NONE for other numbers.");
+        for (int which : Texts.beyond(1)) {
+            CHECKS.isNoneInEveryState(store, "steps(" + which + ")", x -> x.steps(which));
+        }
     }
 }
