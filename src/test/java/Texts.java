@@ -86,7 +86,7 @@ final class Texts {
         return "" + (char) first + (char) second;
     }
 
-    /** Numbers that are none of 0 .. last, those that a narrower type would make one of them too. */
+    /** Numbers that are none of 0 .. last, also those that a narrower type would make one. */
     static int[] beyond(int last) {
         return new int[] {-1, -2, last + 1, last + 2, 256, 65536, Integer.MIN_VALUE,
             Integer.MIN_VALUE + 1, Integer.MAX_VALUE - 1, Integer.MAX_VALUE};
