@@ -15,6 +15,7 @@ public final class TypingTest {
             replaceNeverGoesOn(store);
             placeBehindWhatWasInsertedLast(store);
             undoRedoAndGuardBreakTyping(store);
+            guardThatIsSetAlreadyBreaksTyping(store);
             refusedCallsDoNotBreakTyping(store);
             otherCallsDoNotBreakTyping(store);
             sealBeginsAStep(store);
@@ -202,12 +203,22 @@ public final class TypingTest {
         sealed.undo();
         CHECKS.due("insert(1) behind undo() of a later step", sealed.insert(1), true);
         CHECKS.due("steps(0)", sealed.steps(0), 3);
-        VersionedText again = typing(store);
-        again.guard(0);
-        again.insert(1);
-        CHECKS.due("steps(0) behind guard(0)", again.steps(0), 3);
-        again.insert(2);
-        CHECKS.due("typing behind it goes on", again.steps(0), 3);
+    }
+
+    private static void guardThatIsSetAlreadyBreaksTyping(int store) {
+        CHECKS.sentence("no call of guard() that was not refused; "
+                + "11: The guard is 0, 1 or 3 from now on; false for other numbers.");
+        for (int metric : new int[] {0, 1, 3}) {
+            VersionedText x = typing(store);
+            x.guard(metric);
+            x.insert(1);
+            CHECKS.due("guard(" + metric + ") again", x.guard(metric), true);
+            x.insert(2);
+            CHECKS.due("steps(0) behind it", x.steps(0), 4);
+            CHECKS.due("guard(2)", x.guard(2), false);
+            x.insert(3);
+            CHECKS.due("steps(0): typing goes on behind a refused one", x.steps(0), 4);
+        }
     }
 
     private static void refusedCallsDoNotBreakTyping(int store) {
